@@ -106,22 +106,24 @@ public final class Zfsmill {
         if (!isBlockOfFile(file, block)) {
             throw new IllegalArgumentException("file or block is out of range");
         }
-        int found = firstData(file, block);
-        if (found == BLOCKS) {
-            throw new NoSuchElementException("all blocks from this one on are holes");
+        for (int found = block; found < BLOCKS; found++) {
+            if (valueNow(file, found) != HOLE) {
+                return found;
+            }
         }
-        return found;
+        throw new NoSuchElementException("all blocks from this one on are holes");
     }
 
     public int nextHole(int file, int block) throws IllegalArgumentException {
         if (!isBlockOfFile(file, block)) {
             throw new IllegalArgumentException("file or block is out of range");
         }
-        int found = block;
-        while (found < BLOCKS && valueNow(file, found) != HOLE) {
-            found++;
+        for (int found = block; found < BLOCKS; found++) {
+            if (valueNow(file, found) == HOLE) {
+                return found;
+            }
         }
-        return found;
+        return BLOCKS;
     }
 
     // ---- groups
@@ -317,12 +319,8 @@ public final class Zfsmill {
         return mirror >= 0 && mirror < MIRRORS;
     }
 
-    private static boolean isSide(int side) {
-        return side >= 0 && side < SIDES;
-    }
-
     private static boolean isSideOfMirror(int mirror, int side) {
-        return isMirror(mirror) && isSide(side);
+        return mirror >= 0 && mirror < MIRRORS && side >= 0 && side < SIDES;
     }
 
     private static boolean isCell(int cell) {
@@ -331,6 +329,10 @@ public final class Zfsmill {
 
     private static boolean isPlaceNumber(int place) {
         return place >= 0 && place < ALL_CELLS;
+    }
+
+    private static boolean isCellOnSide(int place, int side) {
+        return place >= 0 && place < ALL_CELLS && side >= 0 && side < SIDES;
     }
 
     private static boolean isPointer(int pointer) {
@@ -372,16 +374,13 @@ public final class Zfsmill {
         return open.holds(pointer) ? open.changeOf(pointer) : tree.valueOf(pointer);
     }
 
-    private int firstData(int file, int block) {
-        int found = block;
-        while (found < BLOCKS && valueNow(file, found) == HOLE) {
-            found++;
-        }
-        return found;
-    }
-
     private boolean hasData(int file) {
-        return firstData(file, 0) < BLOCKS;
+        for (int block = 0; block < BLOCKS; block++) {
+            if (valueNow(file, block) != HOLE) {
+                return true;
+            }
+        }
+        return false;
     }
 
     private boolean hasDataAnywhere() {
@@ -512,7 +511,7 @@ public final class Zfsmill {
         tree.sign(pointer, checksum, open.number);
         cells.fill(first);
         cells.fill(second);
-        return tree.countPlaces(pointer);
+        return second == NOWHERE ? 1 : 2;
     }
 
     private void freeWhatIsNotPointedTo() {
@@ -577,7 +576,7 @@ public final class Zfsmill {
         }
 
         boolean holds(int pointer) {
-            return changeOf(pointer) != NOTHING;
+            return isBlockPointer(pointer) && change[pointer] != NOTHING;
         }
 
         int changeOf(int pointer) {
@@ -770,15 +769,16 @@ public final class Zfsmill {
 
         /** A free cell may still bear a mark of its last use: it tells nothing until it is used. */
         boolean hasSpoilt(int place, int side) {
-            return isUsed(place) && isSide(side) && spoilt[side * ALL_CELLS + place];
+            return isCellOnSide(place, side) && used[place] && spoilt[side * ALL_CELLS + place];
         }
 
         boolean isGood(int place, int side) {
-            return isUsed(place) && hasOnline(mirrorOf(place), side) && !hasSpoilt(place, side);
+            return isCellOnSide(place, side) && used[place]
+                    && !away[mirrorOf(place) * SIDES + side] && !spoilt[side * ALL_CELLS + place];
         }
 
         void mark(int place, int side, boolean isSpoiltThere) {
-            if (isPlaceNumber(place) && isSide(side)) {
+            if (isCellOnSide(place, side)) {
                 spoilt[side * ALL_CELLS + place] = isSpoiltThere;
             }
         }

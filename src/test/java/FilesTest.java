@@ -311,7 +311,10 @@ public final class FilesTest {
         for (int block = 0; block < 12; block++) {
             x.write(0, block, 3);
         }
+        x.write(1, 0, 3);
         Check.due(12, () -> x.nextHole(0, 0));
+        x.punch(0, 0, 11);
+        Check.due(Check.NO_ELEMENT, () -> x.nextData(0, 0));
         Check.due(0, x::healed);
     }
 }

@@ -151,6 +151,16 @@ public final class GroupsTest {
         }
         Check.due(2, () -> x.read(0, 0));
         Check.due(0, x::healed);
+        for (int side = 0; side < 2; side++) {
+            x.spoil(2, side, 0);
+        }
+        x.punch(0, 0, 0);
+        x.sync();
+        x.write(0, 0, 2);
+        x.sync();
+        Check.due(200, () -> x.nodePlace(0, 1));
+        Check.due(false, () -> x.isSpoilt(2, 0, 0));
+        Check.due(false, () -> x.isSpoilt(2, 1, 0));
     }
 
     /** All 48 blocks with two copies take 106 of the 120 cells; free are 4, 5 and 5. */
@@ -188,6 +198,18 @@ public final class GroupsTest {
         Check.due(6, x::abandon);
         Check.due(302, () -> x.read(3, 1));
         Check.due(0, x::buffered);
+        // Too many by the blocks of file 0 alone, whatever comes after them.
+        for (int block = 0; block < 12; block++) {
+            x.write(0, block, 7);
+        }
+        Check.due(Check.BAD_STATE, x::sync);
+        Check.due(12, x::buffered);
+        Check.due(1, () -> x.birth(0, 0));
+        Check.due(root, () -> x.rootPlace(0));
+        x.punch(1, 0, 11);
+        Check.due(Check.BAD_STATE, x::sync);
+        Check.due(24, x::abandon);
+        Check.due(112, () -> x.read(1, 11));
     }
 
     private static void syncFillsThePoolToTheLastCell() {

@@ -10,6 +10,7 @@ public final class SidesTest {
         onlineLooksAtOnlineSidesOnly();
         onlineWalksBelowUnreadableNodes();
         onlineLeavesOlderCellsAsTheyWere();
+        onlinePassesOverOlderNodes();
         onlineForgetsMarksOfFormerUse();
         spoil();
         isSpoilt();
@@ -207,6 +208,23 @@ public final class SidesTest {
         Check.due(true, () -> x.isSpoilt(0, 0, 0));
     }
 
+    /** Whatever was synced by the time of the outage is passed over, its last group included. */
+    private static void onlinePassesOverOlderNodes() {
+        Check.promise("13 online");
+        Zfsmill x = oneBlock();
+        x.spoil(1, 1, 0);
+        x.offline(1, 1);
+        x.write(1, 0, 9);
+        x.sync();
+        // The node of file 0 is still at 100; new are the block at 201, its node at 2 and 102,
+        // and the root node at 202 and 3.
+        Check.due(100, () -> x.nodePlace(0, 0));
+        Check.due(201, () -> x.place(1, 0, 0));
+        Check.due(102, () -> x.nodePlace(1, 1));
+        Check.due(1, () -> x.online(1, 1));
+        Check.due(true, () -> x.isSpoilt(1, 1, 0));
+    }
+
     private static void onlineForgetsMarksOfFormerUse() {
         Check.promise("13 online");
         Zfsmill x = oneBlock();
@@ -370,6 +388,19 @@ public final class SidesTest {
         y.spoil(1, 0, 0);
         Check.due(0, y::scrub);
         Check.due(true, () -> y.isSpoilt(1, 0, 0));
+        Zfsmill w = oneBlock();
+        w.write(1, 0, 6);
+        w.sync();
+        for (int nth = 0; nth < 2; nth++) {
+            int node = w.nodePlace(1, nth);
+            spoilBothSides(w, node / 100, node % 100);
+        }
+        int below = w.place(1, 0, 0);
+        w.spoil(below / 100, 0, below % 100);
+        w.spoil(0, 0, 0);
+        Check.due(1, w::scrub);
+        Check.due(false, () -> w.isSpoilt(0, 0, 0));
+        Check.due(true, () -> w.isSpoilt(below / 100, 0, below % 100));
         Zfsmill z = oneBlock();
         z.write(0, 1, 6);
         z.sync();
