@@ -18,19 +18,6 @@ public final class FilesTest {
         Check.end();
     }
 
-    /** One block: it lies at 0, its node at 100 and 200, the root node at 1 and 101. */
-    private static Zfsmill oneBlock() {
-        Zfsmill x = new Zfsmill();
-        x.write(0, 0, 5);
-        Check.due(5, x::sync);
-        Check.due(0, () -> x.place(0, 0, 0));
-        Check.due(100, () -> x.nodePlace(0, 0));
-        Check.due(200, () -> x.nodePlace(0, 1));
-        Check.due(1, () -> x.rootPlace(0));
-        Check.due(101, () -> x.rootPlace(1));
-        return x;
-    }
-
     private static void spoilBothSides(Zfsmill x, int mirror, int cell) {
         x.spoil(mirror, 0, cell);
         x.spoil(mirror, 1, cell);
@@ -157,7 +144,7 @@ public final class FilesTest {
 
     private static void readTellsWhatIsBuffered() {
         Check.promise("5 read");
-        Zfsmill x = oneBlock();
+        Zfsmill x = Pools.oneBlock();
         x.write(0, 0, 6);
         x.punch(0, 3, 3);
         spoilBothSides(x, 0, 1);
@@ -175,7 +162,7 @@ public final class FilesTest {
 
     private static void readHealsUpToTheFirstGoodCell() {
         Check.promise("5 read");
-        Zfsmill x = oneBlock();
+        Zfsmill x = Pools.oneBlock();
         x.spoil(1, 0, 1);
         x.spoil(0, 1, 1);
         Check.due(5, () -> x.read(0, 0));
@@ -197,7 +184,7 @@ public final class FilesTest {
 
     private static void readOfHolesLooksAsFarAsPointersGo() {
         Check.promise("5 read");
-        Zfsmill x = oneBlock();
+        Zfsmill x = Pools.oneBlock();
         x.spoil(0, 0, 1);
         x.spoil(1, 0, 0);
         x.spoil(0, 0, 0);
@@ -218,7 +205,7 @@ public final class FilesTest {
 
     private static void readThatFailsHealsNothing() {
         Check.promise("5 read");
-        Zfsmill x = oneBlock();
+        Zfsmill x = Pools.oneBlock();
         x.spoil(0, 0, 1);
         x.spoil(1, 0, 0);
         spoilBothSides(x, 0, 0);
@@ -237,7 +224,7 @@ public final class FilesTest {
 
     private static void readWithSidesOffline() {
         Check.promise("5 read");
-        Zfsmill x = oneBlock();
+        Zfsmill x = Pools.oneBlock();
         x.spoil(0, 1, 0);
         x.spoil(0, 1, 1);
         x.offline(0, 0);
@@ -253,7 +240,7 @@ public final class FilesTest {
 
     private static void readOutOfRange() {
         Check.promise("5 read");
-        Zfsmill x = oneBlock();
+        Zfsmill x = Pools.oneBlock();
         int[][] wrong = {
             {-1, 0}, {4, 0}, {0, -1}, {0, 12}, {Integer.MIN_VALUE, 0}, {Integer.MAX_VALUE, 0},
             {0, Integer.MIN_VALUE}, {0, Integer.MAX_VALUE}, {-1, 12}, {5, -12},
@@ -269,7 +256,7 @@ public final class FilesTest {
 
     private static void nextData() {
         Check.promise("6 nextData");
-        Zfsmill x = oneBlock();
+        Zfsmill x = Pools.oneBlock();
         spoilBothSides(x, 0, 1);
         spoilBothSides(x, 1, 1);
         Check.due(0, () -> x.nextData(0, 0));
@@ -293,7 +280,7 @@ public final class FilesTest {
 
     private static void nextHole() {
         Check.promise("7 nextHole");
-        Zfsmill x = oneBlock();
+        Zfsmill x = Pools.oneBlock();
         spoilBothSides(x, 0, 1);
         spoilBothSides(x, 1, 1);
         Check.due(1, () -> x.nextHole(0, 0));

@@ -9,7 +9,6 @@ public final class GroupsTest {
         syncWritesRightCells();
         syncWithoutRoomChangesNothing();
         syncFillsThePoolToTheLastCell();
-        syncWantsTheSecondPlaceElsewhere();
         abandon();
         group();
         buffered();
@@ -163,22 +162,9 @@ public final class GroupsTest {
         Check.due(false, () -> x.isSpoilt(2, 1, 0));
     }
 
-    /** All 48 blocks with two copies take 106 of the 120 cells; free are 4, 5 and 5. */
-    private static Zfsmill allBlocks() {
-        Zfsmill x = new Zfsmill();
-        for (int file = 0; file < 4; file++) {
-            x.setCopies(file, 2);
-            for (int block = 0; block < 12; block++) {
-                x.write(file, block, 100 * file + block + 1);
-            }
-        }
-        Check.due(106, x::sync);
-        return x;
-    }
-
     private static void syncWithoutRoomChangesNothing() {
         Check.promise("8 sync");
-        Zfsmill x = allBlocks();
+        Zfsmill x = Pools.allBlocks();
         int root = x.rootPlace(0);
         int sum = x.rootChecksum();
         for (int block = 0; block < 6; block++) {
@@ -214,7 +200,7 @@ public final class GroupsTest {
 
     private static void syncFillsThePoolToTheLastCell() {
         Check.promise("8 sync");
-        Zfsmill x = allBlocks();
+        Zfsmill x = Pools.allBlocks();
         for (int block = 0; block < 5; block++) {
             x.write(3, block, 7);
         }
@@ -229,56 +215,6 @@ public final class GroupsTest {
         }
         Check.due(14, x::sync);
         Check.due(24, () -> x.free(0) + x.free(1) + x.free(2));
-    }
-
-    /** Cells that are free on the mirror of the first place alone are none for the second one. */
-    private static void syncWantsTheSecondPlaceElsewhere() {
-        Check.promise("8 sync");
-        Zfsmill x = allBlocks();
-        for (int nth = 0; nth < 48; nth++) {
-            if (x.place(nth / 12, nth % 12, 0) < 100 || x.place(nth / 12, nth % 12, 1) < 100) {
-                x.punch(nth / 12, nth % 12, nth % 12);
-            }
-        }
-        x.sync();
-        writeHoles(x, 12, 1);
-        writeHoles(x, 20, 2);
-        for (int nth = 0; nth < 48; nth++) {
-            if (x.places(nth / 12, nth % 12) == 1) {
-                x.punch(nth / 12, nth % 12, nth % 12);
-            }
-        }
-        x.sync();
-        Check.due(20, () -> x.free(0));
-        Check.due(9, () -> x.free(1));
-        Check.due(9, () -> x.free(2));
-        // 16 blocks, two nodes and the root node would take the 38 cells, but not two by two.
-        for (int block = 0; block < 8; block++) {
-            x.write(2, block, 6);
-            x.write(3, block, 6);
-        }
-        Check.due(Check.BAD_STATE, x::sync);
-        Check.due(20, () -> x.free(0));
-        Check.due(16, x::abandon);
-        for (int block = 0; block < 8; block++) {
-            x.write(2, block, 6);
-        }
-        for (int block = 0; block < 7; block++) {
-            x.write(3, block, 6);
-        }
-        Check.due(36, x::sync);
-    }
-
-    private static void writeHoles(Zfsmill x, int count, int copies) {
-        int left = count;
-        for (int file = 0; file < 4; file++) {
-            x.setCopies(file, copies);
-            for (int block = x.nextHole(file, 0); block < 12 && left > 0; left--) {
-                x.write(file, block, 5);
-                block = x.nextHole(file, block);
-            }
-        }
-        x.sync();
     }
 
     private static void abandon() {

@@ -26,14 +26,6 @@ public final class SidesTest {
         Check.end();
     }
 
-    /** One block: it lies at 0, its node at 100 and 200, the root node at 1 and 101. */
-    private static Zfsmill oneBlock() {
-        Zfsmill x = new Zfsmill();
-        x.write(0, 0, 5);
-        Check.due(5, x::sync);
-        return x;
-    }
-
     private static void spoilBothSides(Zfsmill x, int mirror, int cell) {
         x.spoil(mirror, 0, cell);
         x.spoil(mirror, 1, cell);
@@ -41,7 +33,7 @@ public final class SidesTest {
 
     private static void offline() {
         Check.promise("12 offline");
-        Zfsmill x = oneBlock();
+        Zfsmill x = Pools.oneBlock();
         Check.dueOf(null, () -> x.offline(0, 0));
         Check.dueOf(Check.BAD_STATE, () -> x.offline(0, 0));
         Check.dueOf(Check.BAD_STATE, () -> x.offline(0, 1));
@@ -60,7 +52,7 @@ public final class SidesTest {
             {-1, 0}, {3, 0}, {0, -1}, {0, 2}, {Integer.MIN_VALUE, 0}, {Integer.MAX_VALUE, 0},
             {0, Integer.MIN_VALUE}, {0, Integer.MAX_VALUE}, {-1, 2}, {1, -2}, {2, 2},
         };
-        Zfsmill x = oneBlock();
+        Zfsmill x = Pools.oneBlock();
         x.offline(0, 0);
         for (int[] w : wrong) {
             Check.promise("12 offline");
@@ -92,7 +84,7 @@ public final class SidesTest {
 
     private static void onlineCopiesWhatIsNewer() {
         Check.promise("13 online");
-        Zfsmill x = oneBlock();
+        Zfsmill x = Pools.oneBlock();
         x.offline(0, 1);
         x.offline(1, 0);
         x.offline(2, 0);
@@ -112,7 +104,7 @@ public final class SidesTest {
 
     private static void onlineCopiesSpoiltCells() {
         Check.promise("13 online");
-        Zfsmill x = oneBlock();
+        Zfsmill x = Pools.oneBlock();
         x.punch(0, 0, 11);
         x.sync();
         x.offline(0, 1);
@@ -129,7 +121,7 @@ public final class SidesTest {
     private static void onlineCopiesFromTheOtherPlace() {
         Check.promise("13 online");
         for (int hurt = 0; hurt < 3; hurt++) {
-            Zfsmill x = oneBlock();
+            Zfsmill x = Pools.oneBlock();
             x.offline(0, 1);
             x.write(0, 1, 6);
             x.sync();
@@ -152,7 +144,7 @@ public final class SidesTest {
 
     private static void onlineLooksAtOnlineSidesOnly() {
         Check.promise("13 online");
-        Zfsmill x = oneBlock();
+        Zfsmill x = Pools.oneBlock();
         x.offline(0, 1);
         x.write(0, 1, 6);
         x.sync();
@@ -170,7 +162,7 @@ public final class SidesTest {
 
     private static void onlineWalksBelowUnreadableNodes() {
         Check.promise("13 online");
-        Zfsmill x = oneBlock();
+        Zfsmill x = Pools.oneBlock();
         x.offline(0, 1);
         x.setCopies(0, 2);
         x.write(0, 0, 6);
@@ -191,7 +183,7 @@ public final class SidesTest {
 
     private static void onlineLeavesOlderCellsAsTheyWere() {
         Check.promise("13 online");
-        Zfsmill x = oneBlock();
+        Zfsmill x = Pools.oneBlock();
         x.spoil(0, 1, 0);
         x.spoil(0, 1, 1);
         x.spoil(0, 0, 0);
@@ -211,7 +203,7 @@ public final class SidesTest {
     /** Whatever was synced by the time of the outage is passed over, its last group included. */
     private static void onlinePassesOverOlderNodes() {
         Check.promise("13 online");
-        Zfsmill x = oneBlock();
+        Zfsmill x = Pools.oneBlock();
         x.spoil(1, 1, 0);
         x.offline(1, 1);
         x.write(1, 0, 9);
@@ -227,7 +219,7 @@ public final class SidesTest {
 
     private static void onlineForgetsMarksOfFormerUse() {
         Check.promise("13 online");
-        Zfsmill x = oneBlock();
+        Zfsmill x = Pools.oneBlock();
         x.spoil(0, 1, 0);
         x.offline(0, 1);
         x.punch(0, 0, 0);
@@ -250,7 +242,7 @@ public final class SidesTest {
 
     private static void spoil() {
         Check.promise("14 spoil");
-        Zfsmill x = oneBlock();
+        Zfsmill x = Pools.oneBlock();
         Check.due(true, () -> x.spoil(0, 0, 0));
         Check.due(false, () -> x.spoil(0, 0, 0));
         Check.due(false, () -> x.isSpoilt(0, 1, 0));
@@ -269,7 +261,7 @@ public final class SidesTest {
 
     private static void isSpoilt() {
         Check.promise("15 isSpoilt");
-        Zfsmill x = oneBlock();
+        Zfsmill x = Pools.oneBlock();
         Check.due(false, () -> x.isSpoilt(0, 0, 0));
         x.spoil(0, 0, 0);
         Check.due(true, () -> x.isSpoilt(0, 0, 0));
@@ -287,7 +279,7 @@ public final class SidesTest {
     }
 
     private static void cellsOutOfRange() {
-        Zfsmill x = oneBlock();
+        Zfsmill x = Pools.oneBlock();
         x.offline(0, 0);
         for (int cell : new int[] {-1, 40, Integer.MIN_VALUE, Integer.MAX_VALUE}) {
             Check.promise("14 spoil");
@@ -310,7 +302,7 @@ public final class SidesTest {
 
     private static void isFree() {
         Check.promise("16 isFree");
-        Zfsmill x = oneBlock();
+        Zfsmill x = Pools.oneBlock();
         for (int mirror = 0; mirror < 3; mirror++) {
             for (int cell = 0; cell < 40; cell++) {
                 int m = mirror;
@@ -330,7 +322,7 @@ public final class SidesTest {
 
     private static void free() {
         Check.promise("17 free");
-        Zfsmill x = oneBlock();
+        Zfsmill x = Pools.oneBlock();
         Check.due(38, () -> x.free(0));
         Check.due(38, () -> x.free(1));
         Check.due(39, () -> x.free(2));
@@ -347,7 +339,7 @@ public final class SidesTest {
 
     private static void scrubHealsAllPlaces() {
         Check.promise("18 scrub");
-        Zfsmill x = oneBlock();
+        Zfsmill x = Pools.oneBlock();
         Check.due(0, x::scrub);
         x.spoil(0, 1, 0);
         x.spoil(1, 0, 0);
@@ -372,7 +364,7 @@ public final class SidesTest {
 
     private static void scrubLeavesOutWhatCannotBeRead() {
         Check.promise("18 scrub");
-        Zfsmill x = oneBlock();
+        Zfsmill x = Pools.oneBlock();
         spoilBothSides(x, 1, 0);
         spoilBothSides(x, 2, 0);
         x.spoil(0, 0, 0);
@@ -381,14 +373,14 @@ public final class SidesTest {
         Check.due(false, () -> x.isSpoilt(0, 0, 1));
         Check.due(true, () -> x.isSpoilt(0, 0, 0));
         Check.due(true, () -> x.isSpoilt(1, 0, 0));
-        Zfsmill y = oneBlock();
+        Zfsmill y = Pools.oneBlock();
         spoilBothSides(y, 0, 1);
         spoilBothSides(y, 1, 1);
         y.spoil(0, 0, 0);
         y.spoil(1, 0, 0);
         Check.due(0, y::scrub);
         Check.due(true, () -> y.isSpoilt(1, 0, 0));
-        Zfsmill w = oneBlock();
+        Zfsmill w = Pools.oneBlock();
         w.write(1, 0, 6);
         w.sync();
         for (int nth = 0; nth < 2; nth++) {
@@ -401,7 +393,7 @@ public final class SidesTest {
         Check.due(1, w::scrub);
         Check.due(false, () -> w.isSpoilt(0, 0, 0));
         Check.due(true, () -> w.isSpoilt(below / 100, 0, below % 100));
-        Zfsmill z = oneBlock();
+        Zfsmill z = Pools.oneBlock();
         z.write(0, 1, 6);
         z.sync();
         spoilBothSides(z, 0, 0);
@@ -413,7 +405,7 @@ public final class SidesTest {
 
     private static void scrubWithSidesOffline() {
         Check.promise("18 scrub");
-        Zfsmill x = oneBlock();
+        Zfsmill x = Pools.oneBlock();
         x.spoil(0, 0, 0);
         x.spoil(0, 1, 1);
         x.spoil(1, 0, 0);
@@ -430,7 +422,7 @@ public final class SidesTest {
 
     private static void healed() {
         Check.promise("19 healed");
-        Zfsmill x = oneBlock();
+        Zfsmill x = Pools.oneBlock();
         spoilBothSides(x, 1, 0);
         x.spoil(0, 0, 0);
         Check.due(0, x::healed);
@@ -454,7 +446,7 @@ public final class SidesTest {
 
     private static void lost() {
         Check.promise("20 lost");
-        Zfsmill x = oneBlock();
+        Zfsmill x = Pools.oneBlock();
         x.write(0, 11, 6);
         x.write(2, 3, 7);
         x.sync();
@@ -482,7 +474,7 @@ public final class SidesTest {
 
     private static void lostCountsWhatIsSynced() {
         Check.promise("20 lost");
-        Zfsmill x = oneBlock();
+        Zfsmill x = Pools.oneBlock();
         spoilBothSides(x, 0, 0);
         x.write(0, 0, 6);
         x.write(0, 1, 6);
