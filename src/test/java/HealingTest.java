@@ -243,23 +243,26 @@ public final class HealingTest {
 
     private static void scrubLeavesOutWhatIsUnderAnUnreadableNode() {
         Check.promise("18 scrub, what is under a node that cannot be read is left out");
-        Zfsmill x = Pools.allBlocks();
-        for (int nth = 0; nth < 2; nth++) {
-            Pools.spoilBothSides(x, x.nodePlace(1, nth));
+        for (int hidden = 0; hidden < 4; hidden++) {
+            int lost = hidden;
+            Zfsmill x = Pools.allBlocks();
+            for (int nth = 0; nth < 2; nth++) {
+                Pools.spoilBothSides(x, x.nodePlace(lost, nth));
+            }
+            for (int file = 0; file < 4; file++) {
+                Pools.spoil(x, x.place(file, 0, 0), 0);
+                Pools.spoil(x, x.place(file, 11, 1), 1);
+            }
+            Check.due(6, x::scrub);
+            Check.due(12, x::lost);
+            for (int file = 0; file < 4; file++) {
+                int f = file;
+                Check.due(f == lost, () -> Pools.isSpoilt(x, x.place(f, 0, 0), 0));
+                Check.due(f == lost, () -> Pools.isSpoilt(x, x.place(f, 11, 1), 1));
+            }
+            Check.due(true, () -> Pools.isSpoilt(x, x.nodePlace(lost, 0), 0));
+            Check.due(0, x::scrub);
         }
-        for (int file = 0; file < 4; file++) {
-            Pools.spoil(x, x.place(file, 0, 0), 0);
-            Pools.spoil(x, x.place(file, 11, 1), 1);
-        }
-        Check.due(6, x::scrub);
-        Check.due(12, x::lost);
-        for (int file = 0; file < 4; file++) {
-            int f = file;
-            Check.due(f == 1, () -> Pools.isSpoilt(x, x.place(f, 0, 0), 0));
-            Check.due(f == 1, () -> Pools.isSpoilt(x, x.place(f, 11, 1), 1));
-        }
-        Check.due(true, () -> Pools.isSpoilt(x, x.nodePlace(1, 0), 0));
-        Check.due(0, x::scrub);
     }
 
     private static void scrubLeavesOutAllUnderAnUnreadableRoot() {

@@ -8,6 +8,7 @@ public final class OutageTest {
         olderBlockUnderANewerNode();
         olderFileUnderANewerRoot();
         missingPointersArePassedOver();
+        allBlocksAreCopied();
         copiesOfASinglePlace();
         copiesOfOneOfTwoPlaces();
         nodesThatCannotBeRead();
@@ -158,6 +159,31 @@ public final class OutageTest {
         Check.due(2, y::sync);
         // All that is newer is the root node; the file 1 is older, the file 0 is missing.
         Check.due(2, () -> y.online(0, 1) + y.online(1, 1) + y.online(2, 1));
+    }
+
+    /** 48 blocks, four nodes and the root node with two places each: 36, 35 and 35 of them. */
+    private static void allBlocksAreCopied() {
+        Check.promise("13 online, each of its places on this mirror, once");
+        int[] due = {36, 35, 35};
+        for (int nth = 0; nth < 6; nth++) {
+            int mirror = nth / 2;
+            int side = nth % 2;
+            Zfsmill x = new Zfsmill();
+            x.offline(mirror, side);
+            for (int file = 0; file < 4; file++) {
+                x.setCopies(file, 2);
+                for (int block = 0; block < 12; block++) {
+                    x.write(file, block, 1 + block);
+                }
+            }
+            Check.due(106, x::sync);
+            Check.due(40 - due[mirror], () -> x.free(mirror));
+            Check.due(due[mirror], () -> x.online(mirror, side));
+            x.offline(mirror, 1 - side);
+            Check.due(0, x::lost);
+            Check.due(12, () -> x.read(3, 11));
+            Check.due(0, x::healed);
+        }
     }
 
     private static void copiesOfASinglePlace() {
