@@ -13,6 +13,8 @@ public final class FullPoolTest {
         nodeOfAPunchedFileWantsCellsToo();
         punchOfEverythingFitsAlways();
         offlineSidesTakeNoRoomAway();
+        mirrorWithoutAFreeCell();
+        mirrorWithoutAFreeCellIsNoPlace();
         roomiestMirrorTakesTheFirstPlace();
         lowestMirrorOfSeveral();
         lowestFreeCell();
@@ -239,6 +241,48 @@ public final class FullPoolTest {
         Check.due(1, () -> x.rootPlace(0));
         Check.due(101, () -> x.rootPlace(1));
         Check.due(38, () -> x.free(0));
+    }
+
+    private static void mirrorWithoutAFreeCell() {
+        Zfsmill x = Pools.fullMirror0();
+        Check.promise("16 isFree, no cell is free");
+        for (int cell = 0; cell < 40; cell++) {
+            int c = cell;
+            Check.due(false, () -> x.isFree(0, c));
+        }
+        Check.promise("17 free, no cell is free");
+        Check.due(0, () -> x.free(0));
+        Check.due(7, () -> x.free(1));
+        Check.due(7, () -> x.free(2));
+        Check.promise("14 spoil, all cells of a mirror");
+        for (int cell = 0; cell < 40; cell++) {
+            int c = cell;
+            Check.due(true, () -> x.spoil(0, 0, c));
+            Check.due(true, () -> x.spoil(0, 1, c));
+        }
+        // Each pointer that has a place there has another one, which is good.
+        Check.due(0, x::lost);
+        Check.due(80, x::scrub);
+    }
+
+    /** All places are on the two other mirrors: seven pointers fit, an eighth one does not. */
+    private static void mirrorWithoutAFreeCellIsNoPlace() {
+        Check.promise("8 sync, a mirror without a free cell");
+        Zfsmill x = Pools.fullMirror0();
+        writeBlocks(x, 3, 5);
+        Check.due(14, x::sync);
+        for (int block = 0; block < 5; block++) {
+            int b = block;
+            Check.due(1, () -> x.place(3, b, 0) / 100);
+            Check.due(2, () -> x.place(3, b, 1) / 100);
+        }
+        Check.due(1, () -> x.nodePlace(3, 0) / 100);
+        Check.due(2, () -> x.nodePlace(3, 1) / 100);
+        Check.due(1, () -> x.rootPlace(0) / 100);
+        Check.due(2, () -> x.rootPlace(1) / 100);
+        Zfsmill y = Pools.fullMirror0();
+        writeBlocks(y, 3, 6);
+        refusedUntilAbandoned(y, 6);
     }
 
     // Places

@@ -45,6 +45,23 @@ final class Pools {
     }
 
     /**
+     * All 48 blocks; free are 0, 7 and 7 cells. The second sync takes nearly all free cells, and
+     * what it frees lies on the mirrors 1 and 2 alone.
+     */
+    static Zfsmill fullMirror0() {
+        Zfsmill x = allBlocks();
+        x.write(1, 9, 7);
+        x.write(1, 11, 7);
+        Check.due(8, x::sync);
+        for (int block = 0; block < 12; block += 3) {
+            x.write(2, block, 7);
+        }
+        Check.due(12, x::sync);
+        Check.due(0, () -> x.free(0));
+        return x;
+    }
+
+    /**
      * Free are 20, 9 and 9 cells, so that at most 18 second places are found beside a first one.
      * The blocks of all files that had a place on mirror 0 are written anew, the first 12 of them
      * with one copy and then punched, while other cells are taken.

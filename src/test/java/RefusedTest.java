@@ -91,6 +91,13 @@ public final class RefusedTest {
             return x.sync();
         });
         Twins.refused(Check.BAD_STATE, RefusedTest::noRoomForASecondPlace, Zfsmill::sync);
+        Twins.refused(Check.BAD_STATE, () -> {
+            Zfsmill x = Pools.fullMirror0();
+            for (int block = 0; block < 6; block++) {
+                x.write(3, block, 7);
+            }
+            return x;
+        }, Zfsmill::sync);
     }
 
     private static Zfsmill noRoomForTheRoot() {
